@@ -5,7 +5,8 @@ final class Show {
 
     static String labels(RingTasks x) {
         StringBuilder row = new StringBuilder();
-        for (int post = 0; post < x.count(2); post++) {
+        int n = x.count(2);
+        for (int post = 0; post < n; post++) {
             row.append(x.at(post));
         }
         return row.toString();
@@ -13,7 +14,8 @@ final class Show {
 
     static String numbers(RingTasks x) {
         StringBuilder row = new StringBuilder();
-        for (int post = 0; post < x.count(2); post++) {
+        int n = x.count(2);
+        for (int post = 0; post < n; post++) {
             row.append(post == 0 ? "" : " ").append(x.told(post));
         }
         return row.toString();
@@ -22,9 +24,10 @@ final class Show {
     /** For each LABEL those that MAY STAND behind it, as in "12 02 01". */
     static String task(RingTasks x) {
         StringBuilder rows = new StringBuilder();
-        for (int a = 0; a < x.count(0); a++) {
+        int k = x.count(0);
+        for (int a = 0; a < k; a++) {
             rows.append(a == 0 ? "" : " ");
-            for (int b = 0; b < x.count(0); b++) {
+            for (int b = 0; b < k; b++) {
                 rows.append(x.may(a, b) == 1 ? Integer.toString(b) : "");
             }
         }
