@@ -28,6 +28,7 @@ public final class FaceTest {
         CHECK.due("public and final", RingTasks.class.getModifiers(), Modifier.PUBLIC | Modifier.FINAL);
         String text = Files.readString(Path.of("src/main/java/RingTasks.java"));
         CHECK.dueText("words ruled out", found(RULED_OUT, text), "");
+        CHECK.dueText("methods inside that bear a public name", sharedNames(), "");
         CHECK.dueText("imports", found(Pattern.compile("import [^;]*;"), text), "import java.util.Arrays;");
         CHECK.end();
     }
@@ -48,6 +49,21 @@ public final class FaceTest {
             }
         }
         return String.join(", ", members);
+    }
+
+    private static String sharedNames() {
+        TreeSet<String> names = new TreeSet<>();
+        TreeSet<String> inside = new TreeSet<>();
+        for (Method method : RingTasks.class.getDeclaredMethods()) {
+            (Modifier.isPublic(method.getModifiers()) ? names : inside).add(method.getName());
+        }
+        for (Class<?> nested : RingTasks.class.getDeclaredClasses()) {
+            for (Method method : nested.getDeclaredMethods()) {
+                inside.add(method.getName());
+            }
+        }
+        inside.retainAll(names);
+        return String.join(", ", inside);
     }
 
     private static String types(Class<?>[] types) {
